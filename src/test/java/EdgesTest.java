@@ -755,6 +755,15 @@ public final class EdgesTest {
             due("the oldest when " + n + " hands came back", x.oldest(0, 1), days[n]);
             due("nothing the other way", x.owes(1, 0), 0);
         }
+        HandsReturned gone = threeDebts();
+        gone.work(0, 1, 3);
+        custom(gone, "plant 7;");
+        gone.work(0, 1, 1);
+        due("a DEBT that is gone is lessened no more", gone.owes(1, 0), 1);
+        HandsReturned paid = threeDebts();
+        paid.even();
+        paid.work(0, 1, 2);
+        due("nor is one that is paid", paid.owes(1, 0), 2);
         sentence("what is left is a DEBT of the FIELD's HOUSE of this DAY");
         HandsReturned y = threeDebts();
         custom(y, "plant 10;");
