@@ -110,5 +110,21 @@ public final class FaceTest {
                 fail("the program says " + word);
             }
         }
+        rows(code);
+    }
+
+    /** All calls of a run live in one room, so only a constructor makes objects and rows. */
+    private static void rows(String code) {
+        int from = code.indexOf("public HandsReturned() {");
+        int to = code.indexOf("\n    }\n", Math.max(0, from));
+        if (from < 0 || to < 0) {
+            fail("the constructor isn't found");
+            return;
+        }
+        for (String line : (code.substring(0, from) + code.substring(to)).split("\n")) {
+            if (line.matches(".*\\bnew\\b.*") && !line.matches("\\s*private final .* = new .*;")) {
+                fail("outside a constructor: " + line.trim());
+            }
+        }
     }
 }
